@@ -116,7 +116,7 @@ public final class ZnodeService {
             throw new IndexOutOfBoundsException();
         }
         int owner = (flags & OWNED_FLAG) != 0 ? session : NONE;
-        proposeChange(CREATE, made, data, owner, inSequence);
+        proposeChange(new Entry(CREATE, made, data, owner, inSequence));
         return made;
     }
 
@@ -130,7 +130,7 @@ public final class ZnodeService {
         if (isOtherVersion(path, version)) {
             return OTHER;
         }
-        proposeChange(SET, path, data, NONE, false);
+        proposeChange(new Entry(SET, path, data, NONE, false));
         return planned.version[path];
     }
 
@@ -149,7 +149,7 @@ public final class ZnodeService {
             throw new UnsupportedOperationException();
         }
         int before = planned.version[path];
-        proposeChange(DELETE, path, 0, NONE, false);
+        proposeChange(new Entry(DELETE, path, 0, NONE, false));
         return before;
     }
 
@@ -347,7 +347,9 @@ public final class ZnodeService {
     }
 
     private static void requireVersion(int version) {
-        requireRange(version, -1, Integer.MAX_VALUE);
+        if (version < -1) {
+            throw new IllegalArgumentException();
+        }
     }
 
     private static void requireNode(Tree tree, int path) {
@@ -416,22 +418,28 @@ public final class ZnodeService {
         return NAMES * parent + name + 1;
     }
 
-    /** Proposes for a caller, who is told when there were too few votes though the entry stays. */
-    private void proposeChange(int kind, int path, int data, int owner, boolean inSequence) {
+    /** Proposes for a caller, who is refused where votes are too few, though the entry stays. */
+    private void proposeChange(Entry entry) {
         if (leader == NONE || servers[leader].length >= FULL_LOG) {
             throw new IllegalStateException();
         }
-        propose(new Entry(kind, path, data, owner, inSequence));
+        appendAndPlan(entry);
+        spread();
         requireQuorum();
     }
 
-    private void propose(Entry entry) {
-        if (leader == NONE) {
-            return;
+    private void appendAndPlan(Entry entry) {
+        if (leader != NONE) {
+            servers[leader].append(entry);
+            planned.play(entry);
         }
-        servers[leader].append(entry);
-        applyTo(planned, entry, NONE);
-        spread();
+    }
+
+    private void planAnew(Server leading) {
+        planned.clear();
+        for (int i = 0; i < leading.length; i++) {
+            planned.play(leading.log[i]);
+        }
     }
 
     private void spread() {
@@ -453,57 +461,15 @@ public final class ZnodeService {
     private void applyLog(int server) {
         Server applying = servers[server];
         for (int i = applying.applied; i < applying.length; i++) {
-            applyTo(applying.tree, applying.log[i], server);
-        }
-        applying.applied = applying.length;
-    }
-
-    private void planAnew(Server leading) {
-        planned.clear();
-        for (int i = 0; i < leading.length; i++) {
-            applyTo(planned, leading.log[i], NONE);
-        }
-    }
-
-    /** With NONE for the server nobody is told, since no session is there. */
-    private void applyTo(Tree tree, Entry entry, int server) {
-        switch (entry.kind) {
-            case CREATE:
-                tree.makeNode(entry);
-                tell(server, entry.path, CREATED);
-                break;
-            case SET:
-                tree.changeNode(entry.path, entry.data);
-                tell(server, entry.path, CHANGED);
-                break;
-            case DELETE:
-                tree.dropNode(entry.path);
-                tell(server, entry.path, GONE);
-                break;
-            default:
-                dropOwned(tree, entry.owner, server);
-                break;
-        }
-    }
-
-    private void dropOwned(Tree tree, int owner, int server) {
-        for (int path = 1; path < PATHS; path++) {
-            if (tree.isOwned(path, owner)) {
-                tree.dropNode(path);
-                tell(server, path, GONE);
-            }
-        }
-    }
-
-    private void tell(int server, int path, int kind) {
-        for (int i = 0; i < SESSIONS; i++) {
-            if (isAt(i, server)) {
-                sessions[i].tellNode(path, kind);
-                if (kind != CHANGED) {
-                    sessions[i].tellParent(parentOf(path));
+            Entry entry = applying.log[i];
+            for (int s = 0; s < SESSIONS; s++) {
+                if (isAt(s, server)) {
+                    sessions[s].hear(entry, applying.tree);
                 }
             }
+            applying.tree.play(entry);
         }
+        applying.applied = applying.length;
     }
 
     // Called where QUORUM may come or a session may become DUE: after any other call none is DUE that could be closed.
@@ -514,7 +480,8 @@ public final class ZnodeService {
         for (int i = 0; i < SESSIONS; i++) {
             if (sessions[i].due) {
                 if (planned.countOwned(i) > 0) {
-                    propose(new Entry(CLOSE, 0, 0, i, false));
+                    appendAndPlan(new Entry(CLOSE, 0, 0, i, false));
+                    spread();
                 }
                 sessions[i].due = false;
             }
@@ -541,6 +508,7 @@ public final class ZnodeService {
         final int[] data = new int[PATHS];
         // NONE where there is no node.
         final int[] version = new int[PATHS];
+        // NONE also where there is no node.
         final int[] owner = new int[PATHS];
         // Only these can have children, so the others' NEXT stays 0.
         final int[] next = new int[PARENTS];
@@ -563,8 +531,22 @@ public final class ZnodeService {
             return version[path] != NONE;
         }
 
-        boolean isOwned(int path, int session) {
-            return has(path) && owner[path] == session;
+        void play(Entry entry) {
+            switch (entry.kind) {
+                case CREATE:
+                    makeNode(entry);
+                    break;
+                case SET:
+                    data[entry.path] = entry.data;
+                    version[entry.path]++;
+                    break;
+                case DELETE:
+                    dropNode(entry.path);
+                    break;
+                default:
+                    dropOwned(entry.owner);
+                    break;
+            }
         }
 
         void makeNode(Entry entry) {
@@ -581,13 +563,17 @@ public final class ZnodeService {
             }
         }
 
-        void changeNode(int path, int newData) {
-            data[path] = newData;
-            version[path]++;
-        }
-
         void dropNode(int path) {
             version[path] = NONE;
+            owner[path] = NONE;
+        }
+
+        void dropOwned(int session) {
+            for (int path = 1; path < PATHS; path++) {
+                if (owner[path] == session) {
+                    dropNode(path);
+                }
+            }
         }
 
         int childrenOf(int path) {
@@ -616,7 +602,7 @@ public final class ZnodeService {
         int countOwned(int session) {
             int owned = 0;
             for (int path = 1; path < PATHS; path++) {
-                if (isOwned(path, session)) {
+                if (owner[path] == session) {
                     owned++;
                 }
             }
@@ -694,26 +680,43 @@ public final class ZnodeService {
             Arrays.fill(watches, 0);
         }
 
-        // Both kinds of watch tell the same of a node that goes, and together they tell it once.
-        void tellNode(int path, int kind) {
-            int telling = kind == GONE ? DATA_WATCH | CHILDREN_WATCH : DATA_WATCH;
-            tellWatches(path, telling, kind);
-        }
-
-        void tellParent(int path) {
-            tellWatches(path, CHILDREN_WATCH, CHILD);
-        }
-
-        private void tellWatches(int path, int telling, int kind) {
-            if ((watches[path] & telling) != 0) {
-                watches[path] &= ~telling;
-                addEvent(kind * EVENT_STEP + path);
+        // Heard before the tree plays the entry, since a CLOSE tells of nodes that are gone behind it.
+        void hear(Entry entry, Tree tree) {
+            switch (entry.kind) {
+                case CREATE:
+                    tellOf(entry.path, CREATED);
+                    break;
+                case SET:
+                    tellOf(entry.path, CHANGED);
+                    break;
+                case DELETE:
+                    tellOf(entry.path, GONE);
+                    break;
+                default:
+                    for (int path = 1; path < PATHS; path++) {
+                        if (tree.owner[path] == entry.owner) {
+                            tellOf(path, GONE);
+                        }
+                    }
+                    break;
             }
         }
 
-        private void addEvent(int event) {
+        // Both kinds of watch tell the same of a node that goes, and together they tell it once.
+        private void tellOf(int path, int kind) {
+            tellWatches(path, kind == GONE ? DATA_WATCH | CHILDREN_WATCH : DATA_WATCH, kind);
+            if (kind != CHANGED) {
+                tellWatches(parentOf(path), CHILDREN_WATCH, CHILD);
+            }
+        }
+
+        private void tellWatches(int path, int telling, int kind) {
+            if ((watches[path] & telling) == 0) {
+                return;
+            }
+            watches[path] &= ~telling;
             if (eventCount < MOST_EVENTS) {
-                events[eventCount] = event;
+                events[eventCount] = kind * EVENT_STEP + path;
                 eventCount++;
             }
         }

@@ -241,6 +241,10 @@ public final class ChangeTest {
             create 0 6 5 0 = 6
             create 0 42 5 0 = 42
             create 0 258 5 0 = 258
+            create 0 1 5 0 = 1
+            create 0 7 5 0 = 7
+            create 0 43 5 0 = 43
+            delete 0 43 -1 = 0
             delete 0 42 -1 ! UnsupportedOperationException
             delete 0 6 -1 ! UnsupportedOperationException
             delete 0 258 -1 = 0
@@ -313,6 +317,18 @@ public final class ChangeTest {
             exists 0 2 false = false
             state 2 4 = 4
             state 0 1 = 9
+            """);
+        script.run("6, 7: PLANNED forgets it of the root too", """
+            open 0 0 50 = 50
+            open 1 1 50 = 50
+            alone 0 true = 1
+            create 0 0 5 2 ! IllegalStateException
+            set 0 0 -1 6 ! IllegalStateException
+            elect = 1
+            set 1 0 1 7 = -2
+            set 1 0 0 7 = 1
+            create 1 0 5 2 = 1
+            fact 1 0 1 = 1
             """);
         script.run("6: PLANNED forgets what another leader does not have", """
             open 0 0 50 = 50

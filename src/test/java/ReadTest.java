@@ -351,6 +351,16 @@ public final class ReadTest {
             event 1 = 302
             event 1 ! NoSuchElementException
             """);
+        script.run("a crash takes the watches of session 0 too", """
+            open 0 2 50 = 50
+            open 3 0 50 = 50
+            exists 0 1 true = false
+            children 0 0 true = 0
+            crash 2 = 0
+            restart 2 = 0
+            create 3 1 5 0 = 1
+            event 0 ! NoSuchElementException
+            """);
         script.run("a session ends: what it watched is not told to the next", """
             open 0 0 50 = 50
             open 1 0 1 = 1

@@ -368,6 +368,22 @@ public final class ServerTest {
             count 4 = 0
             exists 1 1 false = false
             """);
+        script.run("18: all sessions behind a full LOG", fullLog() + """
+            state 0 0 = 60
+            tick 20 = 0
+            tick 20 = 0
+            tick 10 = 4
+            state 0 0 = 64
+            state 2 1 = 64
+            state 1 4 = 1
+            alone 1 true = 1
+            alone 1 false = 1
+            crash 0 = 64
+            elect = 1
+            state 2 0 = 64
+            open 0 1 50 = 100
+            children 0 0 false = 0
+            """);
         script.run("18: EXPIRED sessions are closed by rising numbers", """
             open 0 0 50 = 50
             open 3 0 5 = 5
@@ -381,6 +397,18 @@ public final class ServerTest {
             event 0 = 901
             state 1 0 = 4
             """);
+    }
+
+    private static String fullLog() {
+        StringBuilder text = new StringBuilder();
+        for (int s = 0; s < 4; s++) {
+            text.append("open ").append(s).append(" 0 50 = 50\n");
+            text.append("create ").append(s).append(" ").append(s + 1).append(" 5 1\n");
+        }
+        for (int i = 1; i <= 56; i++) {
+            text.append("set 0 0 -1 9 = ").append(i).append("\n");
+        }
+        return text.toString();
     }
 
     private static void state(Script script) {

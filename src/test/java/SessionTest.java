@@ -61,6 +61,9 @@ public final class SessionTest {
             count 4 = 1
             count 5 = 0
             count 7 = 1
+            tick 6 = 0
+            tick 1 = 1
+            count 7 = 0
             """);
         script.run("2: numbers out of range", """
             open -1 0 10 ! IllegalArgumentException
