@@ -195,6 +195,15 @@ public final class SessionTest {
             exists 1 1 false = false
             state 1 0 = 3
             """);
+        script.run("3: owned nodes that were lost with their leader do not count", """
+            open 0 0 50 = 50
+            alone 0 true = 1
+            create 0 1 5 1 ! IllegalStateException
+            elect = 1
+            alone 0 false = 1
+            close 0 = 0
+            state 1 0 = 0
+            """);
         script.run("3: a CLOSE goes behind a full LOG", fullLog("1 1 5 1") + """
             state 0 0 = 60
             close 1 = 1
