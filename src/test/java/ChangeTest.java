@@ -289,19 +289,19 @@ public final class ChangeTest {
             create 0 1 5 0 = 1
             crash 1 = 1
             crash 2 = 1
-            create 0 2 6 0 ! IllegalStateException
+            create 0 2 6 0 !+ IllegalStateException
             create 0 2 6 0 ! IndexOutOfBoundsException
-            create 0 13 6 0 ! IllegalStateException
-            create 0 1 6 2 ! IllegalStateException
-            create 0 1 6 2 ! IllegalStateException
-            set 0 1 0 7 ! IllegalStateException
+            create 0 13 6 0 !+ IllegalStateException
+            create 0 1 6 2 !+ IllegalStateException
+            create 0 1 6 2 !+ IllegalStateException
+            set 0 1 0 7 !+ IllegalStateException
             set 0 1 0 7 = -2
-            set 0 1 1 8 ! IllegalStateException
+            set 0 1 1 8 !+ IllegalStateException
             delete 0 2 0 ! UnsupportedOperationException
-            delete 0 13 0 ! IllegalStateException
+            delete 0 13 0 !+ IllegalStateException
             delete 0 13 0 ! NoSuchElementException
             set 0 13 0 9 ! NoSuchElementException
-            delete 0 2 0 ! IllegalStateException
+            delete 0 2 0 !+ IllegalStateException
             state 0 0 = 9
             state 0 1 = 1
             get 0 1 false = 5
@@ -322,8 +322,8 @@ public final class ChangeTest {
             open 0 0 50 = 50
             open 1 1 50 = 50
             alone 0 true = 1
-            create 0 0 5 2 ! IllegalStateException
-            set 0 0 -1 6 ! IllegalStateException
+            create 0 0 5 2 !+ IllegalStateException
+            set 0 0 -1 6 !+ IllegalStateException
             elect = 1
             set 1 0 1 7 = -2
             set 1 0 0 7 = 1
@@ -334,10 +334,10 @@ public final class ChangeTest {
             open 0 0 50 = 50
             open 1 1 50 = 50
             alone 0 true = 1
-            create 0 1 5 1 ! IllegalStateException
+            create 0 1 5 1 !+ IllegalStateException
             create 0 0 5 3 ! IndexOutOfBoundsException
-            create 0 2 5 0 ! IllegalStateException
-            create 0 2 5 2 ! IllegalStateException
+            create 0 2 5 0 !+ IllegalStateException
+            create 0 2 5 2 !+ IllegalStateException
             elect = 1
             create 1 13 6 0 ! NoSuchElementException
             create 1 0 6 2 = 1
@@ -397,7 +397,7 @@ public final class ChangeTest {
             """);
         script.run("6: full without QUORUM nothing is put in the LOG", full + """
             alone 0 true = 1
-            set 0 0 -1 8 ! IllegalStateException
+            set 0 0 -1 8 !+ IllegalStateException
             state 0 0 = 60
             set 0 0 -1 8 ! IllegalStateException
             state 0 0 = 60

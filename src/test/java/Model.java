@@ -74,6 +74,10 @@ final class Model {
         return true;
     }
 
+    int countEntries() {
+        return servers[0].log.size() + servers[1].log.size() + servers[2].log.size();
+    }
+
     private String call(String name, int[] n) {
         switch (name) {
             case "open": return open(n[0], n[1], n[2]);

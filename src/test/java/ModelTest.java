@@ -9,6 +9,8 @@ public final class ModelTest {
     private static final int RUNS = 400;
     private static final int CALLS = 512;
     private static final int SHOWN = 25;
+    // A snapshot is dear, so only some runs look whether a refused call leaves the object as it was.
+    private static final int SNAPSHOT_EVERY = 20;
 
     private final Random random;
     // Some runs keep to few paths, where nodes meet; others to many; some are calm, others full of crashes.
@@ -39,16 +41,22 @@ public final class ModelTest {
         List<String> calls = new ArrayList<>();
         for (int i = 0; i < CALLS; i++) {
             String call = nextCall();
+            boolean looked = seed % SNAPSHOT_EVERY == 0;
+            int entries = model.countEntries();
+            String before = looked ? Snapshot.of(service) : "";
             String due = model.answer(call.split(" "));
             String got = Script.answer(service, call.split(" "));
+            String behind = looked ? Snapshot.of(service) : "";
             calls.add(call + " = " + due);
             seen.merge(call.split(" ")[0] + (due.endsWith("Exception") ? " " + due : ""), 1, Integer::sum);
             if (!model.isSound()) {
                 System.out.println("run " + seed + ": the model's own trees and logs part behind " + call);
                 return false;
             }
-            if (!due.equals(got)) {
-                System.out.println("run " + seed + ", call " + i + " answered " + got + ", the last calls:");
+            boolean kept = !due.endsWith("Exception") || entries != model.countEntries() || before.equals(behind);
+            if (!due.equals(got) || !kept) {
+                System.out.println("run " + seed + ", call " + i + " answered " + got
+                    + (kept ? "" : " and changed the object") + ", the last calls:");
                 calls.subList(Math.max(0, calls.size() - SHOWN), calls.size()).forEach(System.out::println);
                 return false;
             }

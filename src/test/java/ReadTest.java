@@ -321,7 +321,7 @@ public final class ReadTest {
             open 0 0 50 = 50
             exists 0 1 true = false
             alone 0 true = 1
-            create 0 1 5 0 ! IllegalStateException
+            create 0 1 5 0 !+ IllegalStateException
             event 0 ! NoSuchElementException
             alone 0 false = 1
             event 0 = 301
@@ -330,7 +330,7 @@ public final class ReadTest {
             open 0 0 50 = 50
             exists 0 1 true = false
             alone 0 true = 1
-            create 0 1 5 0 ! IllegalStateException
+            create 0 1 5 0 !+ IllegalStateException
             elect = 1
             alone 0 false = 1
             event 0 ! NoSuchElementException

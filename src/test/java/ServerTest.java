@@ -51,7 +51,7 @@ public final class ServerTest {
         script.run("14: a LOG longer than what is APPLIED", """
             open 0 0 50 = 50
             alone 0 true = 1
-            create 0 1 5 0 ! IllegalStateException
+            create 0 1 5 0 !+ IllegalStateException
             crash 0 = 1
             state 0 1 = 0
             """);
@@ -146,7 +146,7 @@ public final class ServerTest {
             create 0 1 5 0 = 1
             state 1 0 = 0
             alone 2 true = 1
-            create 0 2 5 0 ! IllegalStateException
+            create 0 2 5 0 !+ IllegalStateException
             state 0 1 = 1
             state 2 0 = 1
             alone 1 false = 1
@@ -241,8 +241,8 @@ public final class ServerTest {
             open 0 0 50 = 50
             open 1 1 50 = 50
             alone 0 true = 1
-            create 0 1 5 0 ! IllegalStateException
-            create 0 2 5 0 ! IllegalStateException
+            create 0 1 5 0 !+ IllegalStateException
+            create 0 2 5 0 !+ IllegalStateException
             state 0 0 = 2
             elect = 1
             create 1 3 5 0 = 3
@@ -274,9 +274,9 @@ public final class ServerTest {
             open 0 0 50 = 50
             open 1 1 50 = 50
             alone 0 true = 1
-            create 0 1 5 0 ! IllegalStateException
-            create 0 2 5 0 ! IllegalStateException
-            create 0 3 5 0 ! IllegalStateException
+            create 0 1 5 0 !+ IllegalStateException
+            create 0 2 5 0 !+ IllegalStateException
+            create 0 3 5 0 !+ IllegalStateException
             elect = 1
             create 1 4 5 0 = 4
             crash 1 = 1
@@ -293,7 +293,7 @@ public final class ServerTest {
             open 0 0 50 = 50
             open 1 1 50 = 50
             alone 0 true = 1
-            create 0 1 5 0 ! IllegalStateException
+            create 0 1 5 0 !+ IllegalStateException
             crash 0 = 1
             alone 0 false = 1
             restart 0 = 0
@@ -309,7 +309,7 @@ public final class ServerTest {
             create 0 1 5 0 = 1
             restart 1 = 1
             alone 0 true = 1
-            create 0 2 5 0 ! IllegalStateException
+            create 0 2 5 0 !+ IllegalStateException
             elect = 1
             state 2 0 = 1
             """);
@@ -418,7 +418,7 @@ public final class ServerTest {
             create 0 7 5 0 = 7
             delete 0 7 -1 = 0
             alone 0 true = 1
-            set 0 1 -1 6 ! IllegalStateException
+            set 0 1 -1 6 !+ IllegalStateException
             state 0 0 = 4
             state 0 1 = 3
             state 0 2 = 1

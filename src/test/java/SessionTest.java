@@ -188,8 +188,8 @@ public final class SessionTest {
             open 0 0 50 = 50
             open 1 1 50 = 50
             alone 0 true = 1
-            create 0 1 5 1 ! IllegalStateException
-            create 0 2 5 1 ! IllegalStateException
+            create 0 1 5 1 !+ IllegalStateException
+            create 0 2 5 1 !+ IllegalStateException
             alone 0 false = 1
             close 0 = 2
             exists 1 1 false = false
@@ -198,7 +198,7 @@ public final class SessionTest {
         script.run("3: owned nodes that were lost with their leader do not count", """
             open 0 0 50 = 50
             alone 0 true = 1
-            create 0 1 5 1 ! IllegalStateException
+            create 0 1 5 1 !+ IllegalStateException
             elect = 1
             alone 0 false = 1
             close 0 = 0
